@@ -36,6 +36,17 @@ final class Check {
         x.end(s.length());
     }
 
+    static int lengths(HatAtCouncil x, String s) {
+        text(x, s);
+        return x.lengths();
+    }
+
+    /** How many councillors come by some lines, or what council() answers else. */
+    static int come(HatAtCouncil x, String s) {
+        text(x, s);
+        return x.council();
+    }
+
     static int law(HatAtCouncil x, String s) {
         text(x, s);
         return x.law();
@@ -64,6 +75,13 @@ final class Check {
 
     void due(String call, boolean got, boolean want) {
         due(call, got ? 1 : 0, want ? 1 : 0);
+    }
+
+    void due(String call, String got, String want) {
+        if (!got.equals(want)) {
+            wrong++;
+            System.out.println(call + ": seen is" + got + "\n  due is" + want);
+        }
     }
 
     void row(String call, HatAtCouncil x, long... want) {

@@ -62,71 +62,61 @@ public final class ThingsTest {
         check.due("end of nothing", x.end(0), true);
     }
 
-    private static int lengths(HatAtCouncil x, String s) {
-        Check.text(x, s);
-        return x.lengths();
-    }
-
     private static void lengths() {
         HatAtCouncil x = new HatAtCouncil();
-        check.due("lengths", lengths(x, "12345678"), 36);
+        check.due("lengths", Check.lengths(x, "12345678"), 36);
         check.due("lengths empty the text", x.count(11), 0);
-        check.due("none", lengths(x, ""), -1);
-        check.due("seven", lengths(x, "9999999"), -8);
-        check.due("nine", lengths(x, "999999999"), -9);
-        check.due("a 0", lengths(x, "99909999"), -4);
-        check.due("a letter", lengths(x, "9999999a"), -8);
-        check.due("a sign below the digits", lengths(x, "9/999999"), -2);
-        check.due("a sign above the digits", lengths(x, "99:99999"), -3);
-        check.due("bad ahead of a ninth", lengths(x, "9x9999999"), -2);
+        check.due("none", Check.lengths(x, ""), -1);
+        check.due("seven", Check.lengths(x, "9999999"), -8);
+        check.due("nine", Check.lengths(x, "999999999"), -9);
+        check.due("a 0", Check.lengths(x, "99909999"), -4);
+        check.due("a letter", Check.lengths(x, "9999999a"), -8);
+        check.due("a sign below the digits", Check.lengths(x, "9/999999"), -2);
+        check.due("a sign above the digits", Check.lengths(x, "99:99999"), -3);
+        check.due("bad ahead of a ninth", Check.lengths(x, "9x9999999"), -2);
         check.due("refused empties the text", x.count(11), 0);
         check.due("refused changes nothing", x.thing(3, 0), 4);
     }
 
-    private static int council(HatAtCouncil x, String s) {
-        Check.text(x, s);
-        return x.council();
-    }
-
     private static void councils() {
         HatAtCouncil x = new HatAtCouncil();
-        check.due("none", council(x, ""), 0);
-        check.due("three", council(x, "3ab;9;1abcdefgh"), 3);
+        check.due("none", Check.come(x, ""), 0);
+        check.due("three", Check.come(x, "3ab;9;1abcdefgh"), 3);
         check.due("council empties the text", x.count(11), 0);
         check.due("wants", x.man(0, 1), 3);
         check.due("wants nothing", x.man(1, 1), 0);
         check.due("wants all", x.man(2, 1), 255);
-        check.due("breath 0", council(x, "0a"), -1);
-        check.due("no breath", council(x, "a"), -1);
-        check.due("a line too early", council(x, ";1"), -1);
-        check.due("ends too early", council(x, "1;"), -3);
-        check.due("two ;", council(x, "1;;1"), -3);
-        check.due("falling letters", council(x, "1ba"), -3);
-        check.due("like letters", council(x, "1aa"), -3);
-        check.due("a letter too high", council(x, "1i"), -2);
-        check.due("a letter of capitals", council(x, "1A"), -2);
-        check.due("two digits", council(x, "11"), -2);
-        check.due("nothing of it comes", council(x, "1a;2b;x"), -7);
+        check.due("breath 0", Check.come(x, "0a"), -1);
+        check.due("no breath", Check.come(x, "a"), -1);
+        check.due("a line too early", Check.come(x, ";1"), -1);
+        check.due("ends too early", Check.come(x, "1;"), -3);
+        check.due("two ;", Check.come(x, "1;;1"), -3);
+        check.due("falling letters", Check.come(x, "1ba"), -3);
+        check.due("like letters", Check.come(x, "1aa"), -3);
+        check.due("a letter too high", Check.come(x, "1i"), -2);
+        check.due("a letter of capitals", Check.come(x, "1A"), -2);
+        check.due("two digits", Check.come(x, "11"), -2);
+        check.due("nothing of it comes", Check.come(x, "1a;2b;x"), -7);
         check.due("still three", x.count(0), 3);
-        check.due("letters start anew in a line", council(x, "1h;2a"), 2);
-        check.due("no room for the fourth of four", council(x, "1;1;1;1"), -7);
-        check.due("no room, but it ends there", council(x, "1;1;1;"), -7);
+        check.due("letters start anew in a line", Check.come(x, "1h;2a"), 2);
+        check.due("no room for the fourth of four", Check.come(x, "1;1;1;1"), -7);
+        check.due("no room, but it ends there", Check.come(x, "1;1;1;"), -7);
         check.due("still five", x.count(0), 5);
-        check.due("room for three", council(x, "1;1;1"), 3);
-        check.due("no room", council(x, "1"), -1);
-        check.due("nothing needs no room", council(x, ""), 0);
+        check.due("room for three", Check.come(x, "1;1;1"), 3);
+        check.due("no room", Check.come(x, "1"), -1);
+        check.due("nothing needs no room", Check.come(x, ""), 0);
         check.due("eight", x.count(0), 8);
     }
 
     private static void councilTooLong() {
         String full = Check.times("1abcdefgh;", 7) + "1abcdefgh";
         HatAtCouncil x = new HatAtCouncil();
-        check.due("80 signs", council(x, full + ";"), -80);
-        check.due("80 signs, the last one bad", council(x, full + "x"), -80);
-        check.due("80 signs, an early one bad", council(x, "1b" + full.substring(1) + ";"), -3);
-        check.due("79 signs that end too early", council(x, full.substring(0, 69) + ";1abcdefg;"), -80);
+        check.due("80 signs", Check.come(x, full + ";"), -80);
+        check.due("80 signs, the last one bad", Check.come(x, full + "x"), -80);
+        check.due("80 signs, an early one bad", Check.come(x, "1b" + full.substring(1) + ";"), -3);
+        check.due("79 signs that end too early", Check.come(x, full.substring(0, 69) + ";1abcdefg;"), -80);
         check.due("none came", x.count(0), 0);
-        check.due("79 signs", council(x, full), 8);
+        check.due("79 signs", Check.come(x, full), 8);
     }
 
     private static void ruleBad(HatAtCouncil x, String s, int place) {
