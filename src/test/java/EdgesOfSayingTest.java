@@ -254,6 +254,11 @@ public final class EdgesOfSayingTest {
         HatAtCouncil x = Check.council("1h;1g;1f;1e;1d;1c;1b;1a");
         check.due("all", x.shares(), 8);
         check.row("all", x, 7, 6, 5, 4, 3, 2, 1, 0);
+        x.order(255, 7);
+        check.due("all, behind an order", x.shares(), 8);
+        check.row("all, behind an order", x, 7, 6, 5, 4, 3, 2, 1, 0);
+        check.due("an order behind shares", x.order(255, 7), 8);
+        check.row("an order behind shares", x, 0, 7, 1, 6, 2, 5, 3, 4, 4, 3, 5, 2, 7, 0, 6, 1);
         x.talk(7, 0, 0);
         check.due("a is said", x.shares(), 7);
         check.row("a is said", x, -1, 6, 5, 4, 3, 2, 1, 0);

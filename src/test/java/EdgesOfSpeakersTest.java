@@ -199,6 +199,9 @@ public final class EdgesOfSpeakersTest {
         check.row("2 pays, then 1", x, 0, 1, 1);
         check.due("2 pays", x.pays(1), 2);
         check.row("2 pays", x, 0, 0, 1);
+        HatAtCouncil eight = Check.council("1;1;1;1;1;1;1;1h");
+        check.due("the last of eight", eight.pays(20), 7);
+        check.row("the last of eight", eight, 0, 0, 0, 0, 0, 0, 0, 20);
         HatAtCouncil none = Check.council("1;1;1");
         check.due("nobody pays", none.pays(20), 0);
         check.row("nobody pays", none, 0, 0, 0);
@@ -258,6 +261,12 @@ public final class EdgesOfSpeakersTest {
         HatAtCouncil none = new HatAtCouncil();
         check.due("nobody there", none.mute(), 255);
         check.row("nobody there", none, 255);
+        Check.come(none, "9abcdefgh;0");
+        check.due("who did not come wants nothing", none.mute(), 255);
+        check.row("who did not come wants nothing", none, 255);
+        HatAtCouncil eight = Check.council("1a;1;1;1;1;1;1;1h");
+        check.due("the first and the last of eight", eight.mute(), 126);
+        check.row("the first and the last of eight", eight, 126);
     }
 
     /** 20: THINGS not SAID. */

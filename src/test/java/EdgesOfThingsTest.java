@@ -32,6 +32,7 @@ public final class EdgesOfThingsTest {
         ruleTakes40Signs();
         ruleDividesByNothing();
         ruleWrapsAsInts();
+        ruleForgetsTheOneAhead();
         manOfNone();
         thingOfNone();
         sheetOfAnotherKind();
@@ -476,6 +477,24 @@ public final class EdgesOfThingsTest {
         Check.rule(x, "512*512*512*8*b");
         check.due("what wraps is the least eager", x.next(), 0);
         check.row("what wraps is the least eager", x, 0, 1 << 30);
+    }
+
+    /** 6, 37: whatever number a RULE came to, and wherever one broke off, the next one begins anew. */
+    private static void ruleForgetsTheOneAhead() {
+        for (int rest = 0; rest <= 130; rest++) {
+            HatAtCouncil x = Check.council("3ab");
+            for (String base : new String[] {"999+1+", "999+999+2+", "999+999+999+3+"}) {
+                Check.law(x, base + rest);
+                Check.law(x, "4-1");
+                check.row("behind " + base + rest, x, 3);
+            }
+        }
+        for (String broken : new String[] {"((((", "1+2*(", "---", "12", "1<", "w+x", "(1))", "1234"}) {
+            HatAtCouncil y = Check.council("3ab");
+            Check.law(y, broken);
+            check.due("behind " + broken, Check.law(y, "((((1))))+12<14"), 0);
+            check.row("behind " + broken, y, 1);
+        }
     }
 
     // 7: NoSuchElementException: none such, another what.

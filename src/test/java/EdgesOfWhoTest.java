@@ -221,6 +221,9 @@ public final class EdgesOfWhoTest {
         check.due("by none", Check.law(x, ""), 0);
         check.row("by none", x, 9, 4);
         check.due("the rule stays", x.next(), 1);
+        HatAtCouncil eight = Check.council("1;2;3;4;5;6;7;8h");
+        check.due("the last of eight", Check.law(eight, "-b"), 7);
+        check.row("all of eight", eight, -1, -2, -3, -4, -5, -6, -7, -8);
     }
 
     /** 37: -2: a silence. */
